@@ -319,7 +319,12 @@ public final class SchoolRow {
             h = withChild(h, child);
         }
         if (hasSchool()) {
-            h = withWhatWouldBe(h);
+            h = with(with(h, order(0)), order(1));
+            for (int seat = 0; seat < MOST_CHILDREN; seat++) {
+                h = with(h, order(ORDER_SEATS + seat));
+            }
+            h = with(with(h, songs(DIGEST_BREATH, 0)), songs(DIGEST_BREATH, 1));
+            h = with(with(h, sick(0)), sick(1));
         }
         for (int place = 0; place < page.length(); place++) {
             h = with(h, page.letterAt(place));
@@ -341,15 +346,6 @@ public final class SchoolRow {
             h = with(h, asks(child, subject));
         }
         return h;
-    }
-
-    private long withWhatWouldBe(long before) {
-        long h = with(with(before, order(0)), order(1));
-        for (int seat = 0; seat < MOST_CHILDREN; seat++) {
-            h = with(h, order(ORDER_SEATS + seat));
-        }
-        h = with(with(h, songs(DIGEST_BREATH, 0)), songs(DIGEST_BREATH, 1));
-        return with(with(h, sick(0)), sick(1));
     }
 
     private static long with(long before, long number) {

@@ -41,6 +41,10 @@ public final class ToldBackTest {
         due("the first, on the seat where he is now", row.orders(0, 0, 1), 0);
         due("behind 1 still", row.orders(0, 2, 0), 1);
         due("nothing has changed", Rows.fingerprint(row), before);
+        row = Rows.of("001111:cccccc");
+        due("the first of six", row.orders(0, 0, 0), 120);
+        due("the last of six", row.orders(0, 62, 0), 120);
+        due("the last of six, on his seat", row.orders(5, 31, 1), 120);
         row = Rows.of("201111:csg");
         due("behind the singer who is behind the sister", row.orders(0, 4, 0), 2);
         due("behind both", row.orders(1, 5, 0), 2);
@@ -81,8 +85,8 @@ public final class ToldBackTest {
     }
 
     private static void sick(SchoolRow row, String when, int sets, int sure) {
-        long before = Rows.fingerprint(row);
         due("sets when " + when, row.sick(0), sets);
+        long before = Rows.fingerprint(row);
         due("sure when " + when, row.sick(1), sure);
         due("unchanged when " + when, Rows.fingerprint(row), before);
     }
@@ -98,6 +102,9 @@ public final class ToldBackTest {
         sick(row, "all is told", 1, 6);
         row.tell(1, SchoolRow.NONE);
         sick(row, "nothing is told of 1 any more", 2, 4);
+        row.tell(0, 0);
+        row.tell(1, 0);
+        sick(row, "all got nothing", 1, 7);
         row = Rows.of("901111:cccc");
         for (int child = 0; child < 4; child++) {
             row.tell(child, 1);

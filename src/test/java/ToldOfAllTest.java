@@ -90,6 +90,11 @@ public final class ToldOfAllTest {
         for (int what = 0; what <= 11; what++) {
             due("count(" + what + ")", row.count(what), want[what]);
         }
+        row.wipe(0, 0);
+        row.swap(0, 1);
+        row.ill(0, false);
+        row.lesson(0, false);
+        due("mistakes with those that 0 has of 0", row.count(9), 2 + 1 + 2 + 3);
         row.blank();
         Rows.write(row, "999999:h");
         row.school();
@@ -122,7 +127,7 @@ public final class ToldOfAllTest {
     }
 
     private static void digests() {
-        SchoolRow row = Rows.of("231234:csdgh");
+        SchoolRow row = Rows.of("235561:csdgh");
         due("digest() of a school", row.digest(), digestByCalls(row, ""));
         row.lesson(1, false);
         row.swap(0, 3);
