@@ -31,4 +31,10 @@ final class Rows {
     static long fingerprint(SchoolRow row) {
         return row.digest();
     }
+
+    /** The fingerprint and what an image holds, which only a restore tells: the row is spent by it. */
+    static long lastFingerprint(SchoolRow row) {
+        long before = 31 * row.digest() + row.fault();
+        return 31 * (31 * before + row.restore()) + row.digest();
+    }
 }
